@@ -4285,7 +4285,7 @@ public final class GridEngine {
             return 4 + 2 * grid.axes + grid.count * CELL_BYTES[grid.lane] + CHECK_BYTES;
         }
 
-        private static int put(byte[] into, int from, int bytes, long number) {
+        private static int putNumber(byte[] into, int from, int bytes, long number) {
             for (int k = 0; k < bytes; k++) {
                 into[from + k] = (byte) (number >> (8 * (bytes - 1 - k)));
             }
@@ -4328,13 +4328,13 @@ public final class GridEngine {
             into[from + 3] = (byte) grid.axes;
             int end = from + 4;
             for (int k = 0; k < grid.axes; k++) {
-                end = put(into, end, 2, grid.size[grid.position(k)]);
+                end = putNumber(into, end, 2, grid.size[grid.position(k)]);
             }
             store.valuesToLine(grid);
             for (int n = 0; n < grid.count; n++) {
-                end = put(into, end, CELL_BYTES[grid.lane], store.line[n]);
+                end = putNumber(into, end, CELL_BYTES[grid.lane], store.line[n]);
             }
-            put(into, end, CHECK_BYTES, check(into, from, end));
+            putNumber(into, end, CHECK_BYTES, check(into, from, end));
         }
 
         /** Reads a grid's shape and cells into the store's rows: -1, or the place of the fault. */
@@ -4420,13 +4420,13 @@ public final class GridEngine {
                 return -NO_ROOM;
             }
             need(length + record);
-            int end = put(data, length, LENGTH_BYTES, record);
-            end = put(data, end, 1, nameBytes);
+            int end = putNumber(data, length, LENGTH_BYTES, record);
+            end = putNumber(data, end, 1, nameBytes);
             System.arraycopy(name, 0, data, end, nameBytes);
             end += nameBytes;
             encode(grid, data, end);
             end += gridBytes;
-            put(data, end, SUM_BYTES, sum(data, length, end));
+            putNumber(data, end, SUM_BYTES, sum(data, length, end));
             lastRecord = length;
             length += record;
             return length;
