@@ -1408,10 +1408,6 @@ public final class GridEngine {
             return kept << by == m ? kept : kept | 1;
         }
 
-        static long difference(long a, long b) {
-            return sum(a, b ^ MINUS);
-        }
-
         static long times(long a, long b) {
             long sign = (a ^ b) & MINUS;
             long x = mantissa(a);
@@ -1757,7 +1753,7 @@ public final class GridEngine {
                     result = Soft.sum(x, y);
                     break;
                 case SUBTRACT:
-                    result = Soft.difference(x, y);
+                    result = Soft.sum(x, y ^ Soft.MINUS);
                     break;
                 case MULTIPLY:
                     result = Soft.times(x, y);
@@ -1769,15 +1765,11 @@ public final class GridEngine {
                     result = Soft.rest(x, y);
                     break;
             }
-            return real(lane, result);
-        }
-
-        private long real(int lane, long number) {
-            if (number == Soft.NAN) {
+            if (result == Soft.NAN) {
                 bad = true;
                 return 0;
             }
-            return lane == FLOAT ? Soft.toFloat(number) : number;
+            return lane == FLOAT ? Soft.toFloat(result) : result;
         }
 
         static int compare(int lane, long a, long b) {
@@ -1849,7 +1841,7 @@ public final class GridEngine {
                 case HIGH_OF:
                     return Soft.width(lane == INT ? a & 0xffffffffL : a) - 1;
                 case ROOT_OF:
-                    return real(lane, Soft.root(a));
+                    return rootOf(a);
                 case FLOOR_OF:
                     return Soft.whole(a, Soft.DOWN);
                 case CEIL_OF:
@@ -1859,6 +1851,15 @@ public final class GridEngine {
                 default:
                     return exactResult(which, lane, a, b);
             }
+        }
+
+        private long rootOf(long a) {
+            long root = Soft.root(a);
+            if (root == Soft.NAN) {
+                bad = true;
+                return 0;
+            }
+            return root;
         }
 
         /** Minus zero counts: abs() turns it over. */
@@ -1922,8 +1923,8 @@ public final class GridEngine {
             }
         }
 
+        /** Who emits has made room with need() before. */
         void emit(int newOp, int place, int newArg, int newLanes, long newValue) {
-            need(1);
             op[length] = newOp;
             at[length] = place;
             arg[length] = newArg;
@@ -2012,11 +2013,12 @@ public final class GridEngine {
         private byte[] text = new byte[0];
         private int length;
         private int next;
-        private int kind;
-        private int at;
-        private int tokenLane;
-        private long tokenValue;
-        private int tokenBehind;
+        // The text's tokens; of a name its length, of a number and a lane's word the lane.
+        private final int[] tokenKind = new int[TEXT_MOST + 1];
+        private final int[] tokenAt = new int[TEXT_MOST + 1];
+        private final int[] tokenArg = new int[TEXT_MOST + 1];
+        private final long[] tokenValue = new long[TEXT_MOST + 1];
+        private int token;
         // What is open: its kind, its place, and what it counts or where it jumps from.
         private final int[] openKind = new int[512];
         private final int[] openAt = new int[512];
@@ -2037,8 +2039,8 @@ public final class GridEngine {
             int mark = program.length;
             int known = program.count;
             int fault = 0;
-            if (!begin(source, sourceLength) || !parseFunctions(known)) {
-                faultAt = sourceLength > TEXT_MOST ? TEXT_MOST : at;
+            if (!scan(source, sourceLength) || !parseFunctions(known)) {
+                faultAt = tokenAt[token];
                 fault = FAULT_1;
             }
             for (int f = known; fault == 0 && f < program.count; f++) {
@@ -2055,11 +2057,12 @@ public final class GridEngine {
         int takeFormula(byte[] source, int sourceLength, Grid[] bound) {
             int mark = program.length;
             int fault = 0;
-            if (!begin(source, sourceLength) || !parseExpression(TEXT_END)) {
-                faultAt = sourceLength > TEXT_MOST ? TEXT_MOST : at;
+            usedGrids = 0;
+            if (!scan(source, sourceLength) || !parseExpression(TEXT_END)) {
+                faultAt = tokenAt[token];
                 fault = FAULT_1;
             } else if (heightOf(mark) > HEIGHT_MOST) {
-                faultAt = firstToken();
+                faultAt = tokenAt[0];
                 fault = FAULT_2;
             } else if (!check(mark, -1, bound)) {
                 fault = FAULT_2;
@@ -2073,22 +2076,39 @@ public final class GridEngine {
             return fault;
         }
 
-        private boolean begin(byte[] source, int sourceLength) {
+        /** Cuts the text into tokens, up to its end or to what is none; false if it is too long. */
+        private boolean scan(byte[] source, int sourceLength) {
             text = source;
-            length = sourceLength;
+            length = Math.min(sourceLength, TEXT_MOST);
             next = 0;
-            usedGrids = 0;
+            token = 0;
             if (sourceLength > TEXT_MOST) {
+                tokenAt[0] = TEXT_MOST;
                 return false;
             }
-            advance();
+            // A byte gives at most one instruction and a half.
+            program.need(2 * length + 8);
+            int kind = OPEN;
+            for (int count = 0; count <= length && kind != TEXT_END && kind != NO_TOKEN; count++) {
+                skipBlanks();
+                tokenAt[count] = next;
+                int c = byteAt(next);
+                if (next >= length) {
+                    kind = TEXT_END;
+                } else if (isSmall(c)) {
+                    kind = scanName(count);
+                } else {
+                    kind = isDigit(c) ? scanNumber(count) : scanSign();
+                }
+                tokenKind[count] = kind;
+            }
             return true;
         }
 
-        private int firstToken() {
-            next = 0;
-            advance();
-            return at;
+        private void skipBlanks() {
+            while (next < length && isBlank(text[next])) {
+                next++;
+            }
         }
 
         private static boolean isSmall(int c) {
@@ -2107,41 +2127,24 @@ public final class GridEngine {
             return place >= 0 && place < length ? text[place] : 0;
         }
 
-        /** Goes on to the next token. */
-        private void advance() {
-            while (next < length && isBlank(text[next])) {
-                next++;
-            }
-            at = next;
-            int c = byteAt(next);
-            if (next >= length) {
-                kind = TEXT_END;
-            } else if (isSmall(c)) {
-                scanName();
-            } else if (isDigit(c)) {
-                scanNumber();
-            } else {
-                scanSign();
-            }
-        }
-
-        private void scanName() {
+        private int scanName(int count) {
+            int from = next;
             int c = byteAt(next);
             while (next < length && (isSmall(c) || isDigit(c) || c >= 'A' && c <= 'Z')) {
                 next++;
                 c = byteAt(next);
             }
-            int word = wordIn(WORDS, at, next - at);
+            int word = wordIn(WORDS, from, next - from);
             if (word > DOUBLE) {
-                kind = NUMBER;
-                tokenLane = BOOLEAN;
-                tokenValue = word == DOUBLE + 1 ? 1 : 0;
-            } else if (word >= 0) {
-                kind = LANE_WORD;
-                tokenLane = word;
-            } else {
-                kind = next - at > LETTERS_MOST ? NO_TOKEN : NAME;
+                tokenArg[count] = BOOLEAN;
+                tokenValue[count] = word == DOUBLE + 1 ? 1 : 0;
+                return NUMBER;
             }
+            tokenArg[count] = word >= 0 ? word : next - from;
+            if (word >= 0) {
+                return LANE_WORD;
+            }
+            return next - from > LETTERS_MOST ? NO_TOKEN : NAME;
         }
 
         /** Which of a list's words stands in the text, -1 if none does. */
@@ -2169,60 +2172,67 @@ public final class GridEngine {
             return true;
         }
 
-        private void scanNumber() {
-            tokenValue = 0;
-            tokenBehind = 0;
-            boolean over = scanDigits();
-            kind = NUMBER;
+        private int scanNumber(int count) {
+            int from = next;
+            tokenValue[count] = 0;
+            boolean over = scanDigits(count);
             if (byteAt(next) == '.' && isDigit(byteAt(next + 1))) {
                 next++;
                 int point = next;
-                over = scanDigits() || next - 1 - at > DIGITS_MOST;
-                tokenBehind = next - point;
-                tokenLane = DOUBLE;
-                if (byteAt(next) == 'F') {
-                    tokenLane = FLOAT;
-                    next++;
-                }
+                over = scanDigits(count) || next - 1 - from > DIGITS_MOST;
+                long number = Numbers.decimal(tokenValue[count], next - point);
+                boolean isFloat = byteAt(next) == 'F';
+                tokenArg[count] = isFloat ? FLOAT : DOUBLE;
+                tokenValue[count] = isFloat ? Soft.toFloat(number) : number;
+                next += isFloat ? 1 : 0;
             } else if (byteAt(next) == 'L') {
-                tokenLane = LONG;
+                tokenArg[count] = LONG;
                 next++;
             } else {
-                tokenLane = INT;
-                over = over || tokenValue > Integer.MAX_VALUE;
+                tokenArg[count] = INT;
+                over = over || tokenValue[count] > Integer.MAX_VALUE;
             }
-            if (over) {
-                kind = NO_TOKEN;
-            }
+            return over ? NO_TOKEN : NUMBER;
         }
 
         /** Adds digits to the token's value; whether it goes beyond a long. */
-        private boolean scanDigits() {
+        private boolean scanDigits(int count) {
             boolean over = false;
             while (next < length && isDigit(text[next])) {
                 int digit = text[next] - '0';
-                over = over || tokenValue > (Long.MAX_VALUE - digit) / 10;
-                tokenValue = tokenValue * 10 + digit;
+                over = over || tokenValue[count] > (Long.MAX_VALUE - digit) / 10;
+                tokenValue[count] = tokenValue[count] * 10 + digit;
                 next++;
             }
             return over;
         }
 
-        private void scanSign() {
-            kind = NO_TOKEN;
+        private int scanSign() {
             // From the last one on: the longer ones stand behind the shorter ones.
-            for (int sign = RIGHT_EMPTY; sign >= 0 && kind == NO_TOKEN; sign--) {
+            for (int sign = RIGHT_EMPTY; sign >= 0; sign--) {
                 int many = sign == RIGHT_EMPTY ? 3 : sign >= EITHER ? 2 : 1;
-                if (isAt(SIGNS, 3 * sign, at, many)) {
-                    kind = sign;
+                if (isAt(SIGNS, 3 * sign, next, many)) {
                     next += many;
+                    return sign;
                 }
+            }
+            return NO_TOKEN;
+        }
+
+        private int kind() {
+            return tokenKind[token];
+        }
+
+        /** Goes on to the next token; behind the last one there is none. */
+        private void advance() {
+            if (tokenKind[token] != TEXT_END && tokenKind[token] != NO_TOKEN) {
+                token++;
             }
         }
 
         private boolean parseFunctions(int known) {
             for (int turn = 0; turn <= length; turn++) {
-                if (kind == TEXT_END) {
+                if (kind() == TEXT_END) {
                     return true;
                 }
                 int f = program.count;
@@ -2233,7 +2243,7 @@ public final class GridEngine {
                 if (!parseExpression(SEMICOLON)) {
                     return false;
                 }
-                program.emit(RETURN, at, 0, 0, 0);
+                program.emit(RETURN, 0, 0, 0, 0);
                 program.count++;
                 advance();
             }
@@ -2242,7 +2252,7 @@ public final class GridEngine {
 
         /** Whether the token is of a kind; then goes on to the next one. */
         private boolean took(int wanted) {
-            if (kind != wanted) {
+            if (tokenKind[token] != wanted) {
                 return false;
             }
             advance();
@@ -2250,17 +2260,17 @@ public final class GridEngine {
         }
 
         private boolean parseHead(int f) {
-            program.resultLane[f] = tokenLane;
+            program.resultLane[f] = tokenArg[token];
             if (!took(LANE_WORD)) {
                 return false;
             }
-            program.nameAt[f] = at;
-            program.nameLength[f] = next - at;
-            if (kind != NAME) {
+            int many = tokenArg[token];
+            program.nameAt[f] = tokenAt[token];
+            program.nameLength[f] = many;
+            if (!took(NAME)) {
                 return false;
             }
-            System.arraycopy(text, at, program.names, f * LETTERS_MOST, next - at);
-            advance();
+            System.arraycopy(text, program.nameAt[f], program.names, f * LETTERS_MOST, many);
             if (!took(OPEN)) {
                 return false;
             }
@@ -2268,9 +2278,8 @@ public final class GridEngine {
                 if (!parseParameter(f, k)) {
                     return false;
                 }
-                if (kind == CLOSE) {
+                if (took(CLOSE)) {
                     program.parameters[f] = k + 1;
-                    advance();
                     return took(SET);
                 }
                 if (!took(COMMA)) {
@@ -2282,12 +2291,12 @@ public final class GridEngine {
 
         private boolean parseParameter(int f, int k) {
             int slot = f * PARAMETERS_MOST + k;
-            program.parameterLane[slot] = tokenLane;
+            program.parameterLane[slot] = tokenArg[token];
             if (!took(LANE_WORD)) {
                 return false;
             }
-            program.parameterAt[slot] = at;
-            program.parameterLength[slot] = next - at;
+            program.parameterAt[slot] = tokenAt[token];
+            program.parameterLength[slot] = tokenArg[token];
             return took(NAME);
         }
 
@@ -2330,10 +2339,10 @@ public final class GridEngine {
                         return false;
                     }
                     operand = program.length == before;
-                } else if (kind == ender) {
+                } else if (kind() == ender) {
                     closeDown();
                     return open == 0;
-                } else if (kind == CLOSE) {
+                } else if (kind() == CLOSE) {
                     if (!parseClose()) {
                         return false;
                     }
@@ -2349,50 +2358,41 @@ public final class GridEngine {
 
         /** Takes what may begin an operand. Only a whole operand gives an instruction. */
         private boolean parseOperand() {
-            int place = at;
-            int many = next - at;
-            switch (kind) {
+            int place = tokenAt[token];
+            int arg = tokenArg[token];
+            int begin = kind();
+            switch (begin) {
                 case NUMBER:
-                    program.emit(NUMBER, place, 0, tokenLane, numberBits());
+                    program.emit(NUMBER, place, 0, arg, tokenValue[token]);
                     advance();
                     closePrefixes();
                     return true;
                 case NAME:
                     advance();
-                    if (kind == OPEN) {
-                        advance();
-                        return push(CALL, place, 0, many);
+                    if (took(OPEN)) {
+                        return push(CALL, place, 0, arg);
                     }
-                    program.emit(NAME, place, many, 0, 0);
+                    program.emit(NAME, place, arg, 0, 0);
                     closePrefixes();
                     return true;
                 case OPEN:
                     advance();
-                    return kind == LANE_WORD ? parseCast(place) : push(OPEN, place, 0, 0);
+                    return kind() == LANE_WORD ? parseCast(place) : push(OPEN, place, 0, 0);
                 case SUBTRACT:
                     advance();
                     return push(NEGATE, place, 0, 0);
                 case NOT:
                 case INVERT:
-                    int sign = kind;
                     advance();
-                    return push(sign, place, 0, 0);
+                    return push(begin, place, 0, 0);
                 default:
                     return false;
             }
         }
 
-        private long numberBits() {
-            if (tokenLane < FLOAT) {
-                return tokenValue;
-            }
-            long number = Numbers.decimal(tokenValue, tokenBehind);
-            return tokenLane == FLOAT ? Soft.toFloat(number) : number;
-        }
-
         /** The lane in a cast stands behind its ( and so is one deeper. */
         private boolean parseCast(int place) {
-            int lane = tokenLane;
+            int lane = tokenArg[token];
             if (depth >= DEPTH_MOST) {
                 return false;
             }
@@ -2452,8 +2452,8 @@ public final class GridEngine {
 
         /** Takes a sign behind which another operand must stand. */
         private boolean parseBetween() {
-            int sign = kind;
-            int place = at;
+            int sign = kind();
+            int place = tokenAt[token];
             int level = levelOf(sign);
             boolean fine = false;
             if (level > 0) {
@@ -2485,7 +2485,7 @@ public final class GridEngine {
 
         /** The : of the ? on top: the first branch ends with a jump, the other one begins. */
         private boolean turnToOther() {
-            program.emit(COLON, at, 0, 0, 0);
+            program.emit(COLON, tokenAt[token], 0, 0, 0);
             program.arg[openArg[open - 1]] = program.length;
             openKind[open - 1] = COLON;
             openArg[open - 1] = program.length - 1;
@@ -2584,7 +2584,12 @@ public final class GridEngine {
                 int many = taken(k);
                 if (many >= 0) {
                     top = Math.max(0, top - many);
-                    int lane = program.op[k] == NAME ? nameLane(k, function, bound) : laneOf(k, function);
+                    int lane;
+                    if (program.op[k] == NAME) {
+                        lane = nameLane(k, function, bound);
+                    } else {
+                        lane = program.op[k] == CALL ? callLane(k, function) : laneOf(k);
+                    }
                     if (lane < 0) {
                         faultAt = program.at[k];
                         return false;
@@ -2621,7 +2626,7 @@ public final class GridEngine {
         }
 
         /** The lane of an instruction's result, -1 if its operands are not as they must be. */
-        private int laneOf(int k, int function) {
+        private int laneOf(int k) {
             int op = program.op[k];
             int first = stack[top];
             switch (op) {
@@ -2639,8 +2644,6 @@ public final class GridEngine {
                     return (first == BOOLEAN) == (other == BOOLEAN) ? other : -1;
                 case CHOSEN:
                     return chosenLane(k, first, stack[top + 1], stack[top + 2]);
-                case CALL:
-                    return callLane(k, function);
                 default:
                     return betweenLane(k, op, first, stack[top + 1]);
             }
