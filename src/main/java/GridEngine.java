@@ -1489,13 +1489,6 @@ public final class GridEngine {
             return pack(a < 0, bottom, m, DOUBLE_DIGITS);
         }
 
-        static int compare(long a, long b) {
-            if (((a | b) & ~MINUS) == 0) {
-                return 0;
-            }
-            return Long.compare(order(a), order(b));
-        }
-
         /** A number that is ordered as the double is, minus zero before zero. */
         static long order(long bits) {
             return bits < 0 ? bits ^ ~MINUS : bits;
@@ -1772,11 +1765,14 @@ public final class GridEngine {
             return lane == FLOAT ? Soft.toFloat(result) : result;
         }
 
+        /** By number: minus zero is zero. */
         static int compare(int lane, long a, long b) {
-            if (lane < FLOAT) {
-                return Long.compare(a, b);
-            }
-            return Soft.compare(widened(lane, DOUBLE, a), widened(lane, DOUBLE, b));
+            boolean zeros = lane >= FLOAT && isZero(lane, a) && isZero(lane, b);
+            return zeros ? 0 : Long.compare(order(lane, a), order(lane, b));
+        }
+
+        private static boolean isZero(int lane, long a) {
+            return a == 0 || lane == FLOAT && a == Soft.FLOAT_MINUS || lane == DOUBLE && a == Soft.MINUS;
         }
 
         static long negated(int lane, long a) {
@@ -1868,8 +1864,7 @@ public final class GridEngine {
         }
 
         private static long signOf(int lane, long a) {
-            boolean zero = lane == FLOAT ? (a & ~Soft.FLOAT_MINUS) == 0 : lane == DOUBLE ? (a & ~Soft.MINUS) == 0 : a == 0;
-            if (zero) {
+            if (isZero(lane, a)) {
                 return 0;
             }
             return isBelow(lane, a) ? negated(lane, one(lane)) : one(lane);
