@@ -1837,7 +1837,9 @@ public final class GridEngine {
                 case HIGH_OF:
                     return Soft.width(lane == INT ? a & 0xffffffffL : a) - 1;
                 case ROOT_OF:
-                    return rootOf(a);
+                    long root = Soft.root(a);
+                    bad = bad || root == Soft.NAN;
+                    return bad ? 0 : root;
                 case FLOOR_OF:
                     return Soft.whole(a, Soft.DOWN);
                 case CEIL_OF:
@@ -1847,15 +1849,6 @@ public final class GridEngine {
                 default:
                     return exactResult(which, lane, a, b);
             }
-        }
-
-        private long rootOf(long a) {
-            long root = Soft.root(a);
-            if (root == Soft.NAN) {
-                bad = true;
-                return 0;
-            }
-            return root;
         }
 
         /** Minus zero counts: abs() turns it over. */
