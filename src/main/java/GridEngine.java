@@ -1630,10 +1630,11 @@ public final class GridEngine {
             if (lane == other || other < FLOAT) {
                 return bits;
             }
-            if (lane == FLOAT) {
-                return Soft.fromFloat(bits);
-            }
-            return Soft.fromLong(bits, other == FLOAT ? Soft.FLOAT_DIGITS : Soft.DOUBLE_DIGITS);
+            return lane == FLOAT ? Soft.fromFloat(bits) : Soft.fromLong(bits, digitsOf(other));
+        }
+
+        private static int digitsOf(int lane) {
+            return lane == FLOAT ? Soft.FLOAT_DIGITS : Soft.DOUBLE_DIGITS;
         }
 
         /** A number that is ordered as the values of the lane are. */
@@ -1669,11 +1670,11 @@ public final class GridEngine {
             if (lane == other) {
                 return bits;
             }
-            if (other >= FLOAT) {
-                return lane == DOUBLE ? Soft.toFloat(bits) : widened(lane, other, bits);
-            }
             if (lane < FLOAT) {
-                return dropped(other, bits);
+                return other >= FLOAT ? Soft.fromLong(bits, digitsOf(other)) : dropped(other, bits);
+            }
+            if (other >= FLOAT) {
+                return lane == DOUBLE ? Soft.toFloat(bits) : Soft.fromFloat(bits);
             }
             long number = Soft.cut(lane == FLOAT ? Soft.fromFloat(bits) : bits);
             return other == LONG ? number : dropped(other, clamped(INT, number));
