@@ -15,14 +15,19 @@ final class Engine {
     private Engine() {
     }
 
+    // What stands in the tray behind the bytes that count: an engine that reads on is found out.
+    private static final byte[] RUBBISH = "0:1)\"\n*,+2;".getBytes(StandardCharsets.ISO_8859_1);
+    private static int fed = 0;
+
     /** Puts bytes behind what the tray has. */
     static void feed(GridEngine x, byte[] bytes) {
+        fed++;
         int before = x.feed(0, 0, 0, 0, 0) - 20;
         x.end(before);
-        for (int from = 0; from < bytes.length; from += 20) {
+        for (int from = 0; from <= bytes.length; from += 20) {
             int[] words = new int[5];
             for (int k = 0; k < 20; k++) {
-                int b = from + k < bytes.length ? bytes[from + k] & 255 : 0;
+                int b = (from + k < bytes.length ? bytes[from + k] : RUBBISH[(fed + from + k) % RUBBISH.length]) & 255;
                 words[k / 4] = words[k / 4] << 8 | b;
             }
             x.feed(words[0], words[1], words[2], words[3], words[4]);

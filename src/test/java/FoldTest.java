@@ -152,6 +152,13 @@ final class FoldTest {
         Due.due("no cell to fail", Engine.shape(x, x.fold(m, 3, 0)), "0x2");
         Due.due("failed(0)", x.failed(0), -1);
         Due.due("sums of none", Engine.cells(x, x.fold(m, 0, 1)), 0, 0, 0, 0, 0, 0);
+        int twice = Engine.grid(x, 4, new int[] {0, 0});
+        Due.due("no cell of none to fail", Engine.shape(x, x.fold(twice, 3, 0)), "0");
+        int full = Engine.grid(x, 1, new int[] {400, 250, 0});
+        Due.due("as many cells as a grid may have, but no room", x.fold(full, 0, 2), -12);
+        GridEngine y = new GridEngine();
+        int alone = Engine.grid(y, 1, new int[] {400, 250, 0});
+        Due.due("as many cells as a grid may have", y.cells(y.fold(alone, 2, 2)), 100000);
         int big = Engine.grid(x, 4, new int[] {4096, 0, 4096});
         Due.due("too many sums of none", x.fold(big, 0, 1), -12);
         Due.due("4 before 12", x.fold(big, 4, 1), -4);

@@ -12,6 +12,7 @@ final class MatrixTest {
         products();
         solutions();
         beyondLong();
+        greatPowers();
         residues();
         for (int round = 0; round < 400; round++) {
             randomProduct();
@@ -131,6 +132,24 @@ final class MatrixTest {
         int e = Engine.grid(x, 4, new int[] {3, 3}, Integer.MIN_VALUE, 0, 0, -1, Integer.MIN_VALUE, 0, 0, -1, 2);
         Due.due("a denominator 2^63", x.solve(e, Engine.ints(x, 1, 0, 0)), -8);
         Due.due("failed(0)", x.failed(0), 2);
+    }
+
+    /** Ten rows whose determinant is a great power of two. */
+    private static void greatPowers() {
+        GridEngine x = new GridEngine();
+        long[] cells = new long[100];
+        int[] right = new int[10];
+        long[] tops = new long[10];
+        long[] lows = new long[10];
+        for (int k = 0; k < 10; k++) {
+            cells[11 * k] = 1 << 30;
+            right[k] = 3 << k;
+            tops[k] = 3;
+            lows[k] = 1L << (30 - k);
+        }
+        int s = x.solve(Engine.grid(x, 4, new int[] {10, 10}, cells), Engine.ints(x, right));
+        Due.due("numerators", Engine.cells(x, s), tops);
+        Due.due("denominators", Engine.cells(x, s + 1), lows);
     }
 
     private static void residues() {

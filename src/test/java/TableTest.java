@@ -77,6 +77,8 @@ final class TableTest {
         fault("a\n\"x\"", 5);
         fault("a\n\"x\"y\n", 5);
         fault("a\n\"x\"\"\n", 6);
+        fault("a\n\"x\"\"", 6);
+        fault("a\n\"\"\"", 5);
         fault("a\n\"x\" \n", 5);
         fault("a\tb\n", 1);
         fault("a\r\n", 1);

@@ -212,6 +212,10 @@ final class ViewTest {
         int row = Engine.grid(x, 1, new int[] {1, 2}, 5, 6);
         Due.due("1x2 to 0x2", x.cells(spread(x, row, 0, 2)), 0);
         Due.due("1x2 to 3x2", Engine.cells(x, spread(x, row, 3, 2)), 5, 6, 5, 6, 5, 6);
+        int four = Engine.grid(x, 1, new int[] {2, 1, 1, 1}, 3, 4);
+        Due.due("four axes", Engine.cells(x, spread(x, four, 2, 1, 2, 1)), 3, 3, 4, 4);
+        Due.due("four axes, the first unlike", spread(x, four, 3, 1, 2, 1), -3);
+        Due.due("four axes, one too few", spread(x, four, 1, 2, 1), -3);
         Due.due("too many cells", spread(x, row, 4096, 4096, 2), -12);
         Due.due("sizes before room", spread(x, row, 4096, 4096, 3), -3);
         Due.due("100000 cells", x.cells(spread(x, one, 250, 400)), 100000);
