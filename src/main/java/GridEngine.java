@@ -2414,7 +2414,7 @@ public final class GridEngine {
         /** Closes all that ends where an expression ends. */
         private void closeDown() {
             closeBinaries(1);
-            while (topKind() == COLON) {
+            while (open > 0 && topKind() == COLON) {
                 open--;
                 depth--;
                 program.emit(CHOSEN, openAt[open], openArg[open], 0, 0);
@@ -4428,7 +4428,7 @@ public final class GridEngine {
         int latest(byte[] name, int nameBytes) {
             int found = -1;
             int at = 0;
-            while (at < length) {
+            for (int record = 0; at < length && record < LOG_MOST; record++) {
                 if (isOfName(at, name, 0, nameBytes)) {
                     found = at;
                 }
@@ -4472,7 +4472,7 @@ public final class GridEngine {
             int at = 0;
             int names = 0;
             lastRecord = 0;
-            while (at < length && isWhole(at)) {
+            for (int record = 0; record < LOG_MOST && isWhole(at); record++) {
                 if (!isKeptBefore(at)) {
                     names++;
                 }
@@ -4485,10 +4485,10 @@ public final class GridEngine {
             return names;
         }
 
-        private boolean isKeptBefore(int record) {
+        private boolean isKeptBefore(int later) {
             int at = 0;
-            while (at < record) {
-                if (isOfName(at, data, record + LENGTH_BYTES + 1, data[record + LENGTH_BYTES])) {
+            for (int record = 0; at < later && record < LOG_MOST; record++) {
+                if (isOfName(at, data, later + LENGTH_BYTES + 1, data[later + LENGTH_BYTES])) {
                     return true;
                 }
                 at = nextRecord(at);
