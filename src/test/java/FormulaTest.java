@@ -285,6 +285,13 @@ final class FormulaTest {
         Due.due("formula of 4001 bytes", Engine.formula(x, "1" + " ".repeat(4000)), -21);
         Due.due("place", x.place(), 4000);
         Due.due("formula of 4000 bytes", Engine.formula(x, "1" + " ".repeat(3999)) > 0, true);
+        Due.due("4000 tokens", Engine.formula(x, many("1+", 2000)), -21);
+        Due.due("place", x.place(), 4000);
+        Due.due("3999 tokens", Engine.formula(x, "1" + many("+1", 1999)), -22);
+        Due.due("place", x.place(), 0);
+        Due.due("1998 arguments", Engine.formula(x, "1+w(1" + many(",1", 1996) + ")"), -22);
+        Due.due("place", x.place(), 2);
+        Due.due("a choice 24 deep, three instructions for each two bytes", Engine.formula(x, many("true?1:", 24) + "1") > 0, true);
     }
 
     private static void check(GridEngine x, int which, String text, int place) {
@@ -367,6 +374,9 @@ final class FormulaTest {
         x.bind(5, Engine.grid(x, 4, new int[] {1, 4096}));
         Due.due("too many cells", Engine.formula(x, "e / 0 + f"), -12);
         Due.due("steps", x.steps(), 0);
+        Engine.formula(x, "1 +");
+        Due.due("refused otherwise", Engine.formula(x, "1 / 0"), -8);
+        Due.due("the place of the latest that was not", x.place(), 3);
         Due.due("bind(8)", x.bind(8, 1), -2);
         Due.due("bind(-1)", x.bind(-1, 1), -2);
         Due.due("bind of none", x.bind(8, 99), -14);
