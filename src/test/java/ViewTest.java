@@ -319,6 +319,14 @@ final class ViewTest {
         Due.due("booleans", Engine.cells(x, b2), 1, 0, 1);
         x.crash(0);
         Due.due("copy, closed", x.copy(1, 99), -13);
+        GridEngine y = engine();
+        shaped(y, 2, 10);
+        y.at(2);
+        y.put(2, 4, 77);
+        int from = Engine.ints(y, 5, 6);
+        int to = Engine.ints(y, 0, 0);
+        y.copy(from, to);
+        Due.due("just these cells are copied", y.cell(2, 2), 77);
     }
 
     /** A chain of random views against lists of places. */
