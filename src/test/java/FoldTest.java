@@ -23,6 +23,7 @@ final class FoldTest {
         groups();
         joins();
         rooms();
+        wide();
         for (int round = 0; round < 1500; round++) {
             randomFold();
             randomOrder();
@@ -353,6 +354,38 @@ final class FoldTest {
         Due.due("join", x.join(i, i), -12);
         Due.due("search needs none", x.search(i, 2), 1);
         Due.due("sorted: 1 before 12", x.sorted(m, false), -1);
+    }
+
+    /** As many cells as an axis may have. */
+    private static void wide() {
+        GridEngine x = new GridEngine();
+        x.bind(0, Engine.grid(x, 1, new int[] {4096}));
+        int g = Engine.formula(x, "a * 0 + (i * 1103515245 + 12345 >>> 3) % 997");
+        long[] cells = Engine.cells(x, g);
+        int s = x.sorted(g, false);
+        long before = Long.MIN_VALUE;
+        long last = -1;
+        for (int n = 0; n < 4096; n++) {
+            long place = x.cell(s, n);
+            long value = cells[(int) place];
+            Due.due("rising, and stable", value > before || value == before && place > last, true);
+            before = value;
+            last = place;
+        }
+        Due.due("search", x.search(g, 500), Arrays.stream(cells).filter(c -> c < 500).count());
+        long[] unlike = Arrays.stream(cells).distinct().sorted().toArray();
+        int k = x.groups(g, g, 0);
+        Due.due("keys", Engine.cells(x, k), unlike);
+        long[] sums = Arrays.stream(unlike).map(u -> u * Arrays.stream(cells).filter(c -> c == u).count()).toArray();
+        Due.due("sums", Engine.cells(x, k + 1), sums);
+        int i = Engine.formula(x, "a * 0 + i");
+        int all = x.groups(i, i, 4);
+        Due.due("4096 groups", Engine.cells(x, all + 1), Engine.cells(x, i));
+        int pairs = x.join(i, Engine.view(x, i, "::-1"));
+        Due.due("4096 pairs", Engine.shape(x, pairs), "4096x2");
+        Due.due("the last pair", x.cell(pairs, 8190) * 10000 + x.cell(pairs, 8191), 40950000);
+        Due.due("running", x.cell(x.running(i, 0, 0), 4095), 4095 * 2048);
+        Due.due("paired", x.cell(x.fold(x.cast(i, 7, 0), 8, 0), 0), Engine.bits(4095.0 * 2048));
     }
 
     private static void randomFold() {

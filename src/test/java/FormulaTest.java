@@ -377,6 +377,15 @@ final class FormulaTest {
         Engine.formula(x, "1 +");
         Due.due("refused otherwise", Engine.formula(x, "1 / 0"), -8);
         Due.due("the place of the latest that was not", x.place(), 3);
+        GridEngine y = new GridEngine();
+        int single = y.grid(4);
+        y.axis(250);
+        y.axis(400);
+        y.bind(0, y.spread(single));
+        Due.due("100000 cells are worked out", Engine.formula(y, "j == 249 && i == 399 ? 1 / a : 1"), -8);
+        Due.due("failed(0)", y.failed(0), 249);
+        Due.due("failed(1)", y.failed(1), 399);
+        Due.due("steps", y.steps(), 3 * 100000 + 400 + 1);
         Due.due("bind(8)", x.bind(8, 1), -2);
         Due.due("bind(-1)", x.bind(-1, 1), -2);
         Due.due("bind of none", x.bind(8, 99), -14);

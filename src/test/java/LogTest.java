@@ -78,6 +78,15 @@ final class LogTest {
         }
         Due.due("open: no room", Engine.open(x, "g"), -12);
         Due.due("open: 14 before 12", Engine.open(x, "z"), -14);
+        GridEngine z = new GridEngine();
+        int half = Engine.grid(z, 1, new int[] {14, 2141});
+        Due.due("30000 bytes", Engine.keep(z, half, "h"), 30000);
+        Due.due("60000 bytes", Engine.keep(z, half, "h"), 60000);
+        Due.due("no more", Engine.keep(z, z.grid(0), "h"), -12);
+        z.crash(30000);
+        Due.due("reopen", z.reopen(), 1);
+        Due.due("logged", z.logged(), 60000);
+        Due.due("open", z.cells(Engine.open(z, "h")), 14 * 2141);
         GridEngine y = new GridEngine();
         int one = y.grid(0);
         int length = 0;

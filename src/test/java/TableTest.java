@@ -265,6 +265,12 @@ final class TableTest {
         y.axis(499);
         int big = y.pick(1, y.spread(g));
         Due.due("length", y.write(big), 8 + 499 * 60);
+        GridEngine w = new GridEngine();
+        Engine.table(w, "a".repeat(20) + "," + "b".repeat(20) + "," + "c".repeat(17) + "\n" + row + "," + "y".repeat(10) + "," + "z".repeat(7) + "\n");
+        int only = w.grid(4);
+        w.axis(499);
+        Due.due("30000 bytes", w.write(w.pick(1, w.spread(only))), 30000);
+        Due.due("the last one", w.out(29999), 10);
         GridEngine z = new GridEngine();
         Engine.table(z, "abcde,b\n" + row + "," + "y".repeat(19) + "\n");
         g = z.grid(4);

@@ -181,8 +181,13 @@ final class TrayAndGridTest {
         for (int n = 0; n < 4; n++) {
             x.at(n / 2);
             x.at(n % 2);
-            Due.due("get", x.get(g), x.cell(g, n));
-            Due.due("code", x.code(), 0);
+            x.cell(g, 9);
+            long want = new long[] {10, -20, 30, Long.MIN_VALUE}[n];
+            Due.due("get", x.get(g), want);
+            Due.due("code behind get", x.code(), 0);
+            x.cell(g, 9);
+            Due.due("cell", x.cell(g, n), want);
+            Due.due("code behind cell", x.code(), 0);
         }
         x.at(2);
         x.at(0);
