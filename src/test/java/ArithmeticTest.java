@@ -6,8 +6,23 @@ import java.util.Random;
 final class ArithmeticTest {
     private static final Random RANDOM = new Random(1);
 
+    /** Products that are rounded otherwise if the lowest digit of their upper half is wrong. */
+    private static void hardProducts() {
+        long[][] pairs = {{0x18a2b509a3d64dL, 0x13e1f3692656c7L}, {0x13792038feb749L, 0x1691818fbf34f3L},
+            {0x10a34d312c2d1cL, 0x12e933856f6487L}, {0x16beac86f12bceL, 0x1e640829bb6bd8L}};
+        GridEngine x = new GridEngine();
+        for (long[] pair : pairs) {
+            double a = pair[0];
+            double b = pair[1];
+            x.bind(0, Engine.doubles(x, a));
+            x.bind(1, Engine.doubles(x, b));
+            Due.due("a * b", x.cell(Engine.formula(x, "a * b"), 0), Engine.bits(a * b));
+        }
+    }
+
     public static void main(String[] args) {
         casts();
+        hardProducts();
         for (int round = 0; round < 12; round++) {
             for (int a = 0; a < 8; a++) {
                 for (int b = 0; b < 8; b++) {

@@ -296,6 +296,8 @@ final class FoldTest {
         Due.due("counts", Engine.cells(x, g + 1), 0, 3);
         g = x.groups(k, b, 6);
         Due.due("all", Engine.cells(x, g + 1), 0, 0, 1);
+        g = x.groups(k, b, 7);
+        Due.due("any", Engine.cells(x, g + 1), 1, 0, 1);
         int big = Engine.doubles(x, 1e17, 1, 3, 1, -1e17);
         g = x.groups(b, big, 0);
         Due.due("in the order of the cells", Engine.cells(x, g + 1), Engine.bits(2.0), Engine.bits(1e17 + 3 + -1e17));

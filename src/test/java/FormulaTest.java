@@ -272,6 +272,17 @@ final class FormulaTest {
         check(x, 2, "int g(int x) = h(x); int h(int x) = x;", 15);
         check(x, 2, "int g(int x) = x; int h(int x) = x + true; int h(int x) = x;", 35);
         Due.due("of a text with a fault none is there", Engine.formula(x, "g(1)"), -22);
+        GridEngine first = new GridEngine();
+        check(first, 2, "int g(int x) = g(x);", 15);
+        check(first, 2, "int g(int x) = h(x); int h(int x) = x;", 15);
+        Due.due("letters and digits of names", Engine.functions(first, "int aAZ09z(int zZ9A0) = zZ9A0 + 1;"), 1);
+        Due.due("aAZ09z", first.cell(Engine.formula(first, "aAZ09z(4)"), 0), 5);
+        check(first, 1, "int a_b(int x) = x;", 5);
+        check(first, 1, "int a@(int x) = x;", 5);
+        check(first, 1, "int a[(int x) = x;", 5);
+        Due.due("six parameters", Engine.functions(first, "long six(int a, long b, short c, byte d, char e, int f) = a + 10 * b + 100 * c + 1000 * d + 10000 * e + 100000 * f;"), 2);
+        Due.due("six", first.cell(Engine.formula(first, "six(1, 2, (byte) 3, (byte) 4, (char) 5, 6)"), 0), 654321);
+        Due.due("seven arguments", Engine.formula(first, "six(1, 2, (byte) 3, (byte) 4, (char) 5, 6, 7)"), -22);
         Due.due("a fitting body", Engine.functions(x, "short g(byte x) = x; float g(char x) = x; int h(int a, int b) = g((byte) a) + f(b);"), 6);
         Due.due("h", x.cell(Engine.formula(x, "h(300, 4)"), 0), 52);
         Due.due("a function in another text with other lanes", Engine.functions(x, "int f(int x, int y) = f(x) + y;"), 7);

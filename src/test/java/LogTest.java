@@ -10,6 +10,7 @@ final class LogTest {
         crashes();
         everyCut();
         everyPoke();
+        forged();
         opens();
         Due.finish();
     }
@@ -186,6 +187,40 @@ final class LogTest {
         Due.due("names", x.reopen(), 2);
         Due.due("poke, open", x.poke(40, 1), false);
         Due.due("logged", x.logged(), 91);
+    }
+
+    private static long sum(byte[] bytes, int many) {
+        long s = 0;
+        for (int k = 0; k < many; k++) {
+            s = Long.rotateLeft(s ^ bytes[k] & 255, 27) * 0x9E3779B97F4A7C15L;
+        }
+        return s;
+    }
+
+    /** A record whose name was changed, and its sum with it, by the document's rule: it is found whole. */
+    private static void forged() {
+        GridEngine x = new GridEngine();
+        int g = x.grid(1);
+        x.put(g, 1, 5);
+        byte[] grid = Engine.written(x, x.bytes(g));
+        int length = Engine.keep(x, g, "a");
+        Due.due("keep", length, 4 + 1 + 1 + grid.length + 8);
+        byte[] record = new byte[length];
+        record[3] = (byte) length;
+        record[4] = 1;
+        record[5] = 'a';
+        System.arraycopy(grid, 0, record, 6, grid.length);
+        long before = sum(record, length - 8);
+        record[5] = 'b';
+        long after = sum(record, length - 8);
+        x.crash(length);
+        x.poke(5, 'a' ^ 'b');
+        for (int k = 0; k < 8; k++) {
+            x.poke(length - 8 + k, (int) ((before ^ after) >>> (56 - 8 * k)) & 255);
+        }
+        Due.due("reopen", x.reopen(), 1);
+        Due.due("open a", Engine.open(x, "a"), -14);
+        Due.due("open b", x.cell(Engine.open(x, "b"), 0), 5);
     }
 
     private static void opens() {

@@ -308,6 +308,18 @@ final class TableTest {
         Due.due("8 bytes more", Engine.table(y, "a\n1\n2\n3\n"), -12);
         Due.due("6 bytes more", Engine.table(y, "a\n1\n2\n"), 6);
         Due.due("none more", Engine.table(y, "a\n"), -12);
+        GridEngine w = new GridEngine();
+        Engine.table(w, "a\n" + "z".repeat(39) + "\n");
+        Engine.table(w, "a\n1\n");
+        g = w.grid(4);
+        for (int rows : new int[] {499, 499, 499, 140}) {
+            w.axis(rows);
+            Due.due("picked", w.pick(1, w.spread(g)) > 0, true);
+        }
+        w.axis(0);
+        int none = w.grid(4);
+        Due.due("65536 bytes", w.pick(2, none), 7);
+        Due.due("65538 bytes", w.pick(2, none), -12);
         GridEngine z = new GridEngine();
         Engine.table(z, "a\n1\n");
         while (z.lane(400) < 0) {

@@ -94,6 +94,10 @@ final class ViewTest {
         fault("0,,1", 1, 2);
         fault("-", 1, 1);
         fault("- 1", 1, 1);
+        fault("1:-", 2, 3);
+        fault("1:- 2", 2, 3);
+        fault("::-", 2, 3);
+        fault("::-,0", 2, 3);
         fault("1 1", 1, 2);
         fault("1234567890", 1, 9);
         fault(":1234567890", 2, 10);
