@@ -48,6 +48,20 @@ final class TableTest {
         Due.due("place <" + text + ">", x.place(), place);
         Due.due("none is made", x.rows(1), -14);
         Due.due("the next one's number", Engine.table(x, "a\n"), 1);
+        if (place == text.length()) {
+            endsTooEarly(text);
+        }
+    }
+
+    /** What stands in the tray behind the bytes that count ends nothing. */
+    private static void endsTooEarly(String text) {
+        for (String behind : new String[] {"\n", ",", "\"\n", ",x\n"}) {
+            GridEngine x = new GridEngine();
+            Engine.feed(x, text + behind);
+            x.end(text.length());
+            Due.due("table <" + text + "> before <" + behind + ">", x.table(), -20);
+            Due.due("place", x.place(), text.length());
+        }
     }
 
     private static void faults() {
