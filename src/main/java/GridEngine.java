@@ -3839,7 +3839,8 @@ public final class GridEngine {
             text = source;
             length = sourceLength;
             next = 0;
-            need(sourceLength, sourceLength);
+            // Each cell but the last one has a byte behind it.
+            need(sourceLength, sourceLength + 1);
             int columns = readLine(0);
             int lines = 1;
             while (columns > 0 && next < length && lines < LINES_MOST) {

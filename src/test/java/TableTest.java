@@ -19,6 +19,7 @@ final class TableTest {
         picks();
         writes();
         limits();
+        noTextBehindPicked();
         refusals();
         for (int round = 0; round < 3000; round++) {
             randomTable();
@@ -210,6 +211,20 @@ final class TableTest {
         Due.due("missing 2", x.missing(3, 2), -2);
         Due.due("columnLane 2", x.columnLane(3, 2), -2);
         Due.due("columnLane -1", x.columnLane(3, -1), -2);
+    }
+
+    /** Whatever number of cells the engine has by then, a text of nothing is a fault at 0. */
+    private static void noTextBehindPicked() {
+        for (int rows = 0; rows < 300; rows++) {
+            GridEngine x = new GridEngine();
+            Engine.table(x, "a\n\n");
+            Due.due("pick", x.pick(1, Engine.grid(x, 4, new int[] {rows})), 2);
+            Due.due("no text", Engine.table(x, ""), -20);
+            Due.due("place", x.place(), 0);
+            Due.due("a name alone", Engine.table(x, "a"), -20);
+            Due.due("place", x.place(), 1);
+            Due.due("a table", Engine.table(x, "a\n\n"), 3);
+        }
     }
 
     private static void names() {
