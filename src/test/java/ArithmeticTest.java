@@ -20,9 +20,39 @@ final class ArithmeticTest {
         }
     }
 
+    /** Sums and rests in which what is far below the last digit decides, or that have the least numbers. */
+    private static void hardPairs() {
+        double tiny = Double.MIN_VALUE;
+        double[] some = {1, 0x1p-53, 0x1.8p-53, 0x1p-53 + 0x1p-100, 0x1p-53 + 0x1p-105, 0x1p-54, 0x1.fffffffffffffp-54, 1 + 0x1p-52, 0x1p-200, 3, 1e10, 1e300,
+            tiny, 2 * tiny, 3 * tiny, 5 * tiny, 1000003 * tiny, Double.MIN_NORMAL, Double.MIN_NORMAL - tiny, Double.MIN_NORMAL + 7 * tiny, 0x1.5555555555555p-1000,
+            0x1.fffffffffffffp0, 0x1p-52, 0x1p53, 0x1p53 + 2, 0.5, 0x1.8p-52, Double.MAX_VALUE, 0x1p970, 0x1p969, 7e-320, 0x1.0000000000001p-1022};
+        GridEngine x = new GridEngine();
+        double[] both = new double[2 * some.length];
+        for (int k = 0; k < some.length; k++) {
+            both[2 * k] = some[k];
+            both[2 * k + 1] = -some[k];
+        }
+        int row = Engine.doubles(x, both);
+        x.bind(0, Engine.view(x, row, ":,*"));
+        x.bind(1, row);
+        for (String op : new String[] {"+", "-", "*", "/", "%"}) {
+            int g = Engine.formula(x, "a " + op + " b");
+            for (int n = 0; n < both.length * both.length; n++) {
+                Reference.Value a = new Reference.Value(7, Engine.bits(both[n / both.length]));
+                Reference.Value b = new Reference.Value(7, Engine.bits(both[n % both.length]));
+                Due.due(a.asDouble() + " " + op + " " + b.asDouble(), x.cell(g, n), Reference.binary(op, a, b).bits());
+            }
+        }
+        int g = Engine.formula(x, "sqrt(abs(b))");
+        for (int n = 0; n < both.length; n++) {
+            Due.due("root of " + both[n], x.cell(g, n), Engine.bits(Math.sqrt(Math.abs(both[n]))));
+        }
+    }
+
     public static void main(String[] args) {
         casts();
         hardProducts();
+        hardPairs();
         for (int round = 0; round < 12; round++) {
             for (int a = 0; a < 8; a++) {
                 for (int b = 0; b < 8; b++) {

@@ -35,6 +35,8 @@ final class FoldBoundsTest {
         solutionsEndAtALong();
         residuesTakeSizesAndPrimes();
         residuesWrapAround();
+        longRowsInANewObject();
+        shapesOfResults();
         Due.finish();
     }
 
@@ -415,6 +417,13 @@ final class FoldBoundsTest {
         }
         Refused.due(x, "room for one grid", () -> x.groups(a, a, 0), -12);
         Refused.due(x, "8 before 12", () -> x.groups(same, bad, 1), -8);
+        GridEngine z = new GridEngine();
+        int row = Engine.ints(z, 1, 2, 3);
+        while (z.lane(398) < 0) {
+            z.turned(row, 0, 0);
+        }
+        Due.due("room for two grids", z.groups(row, row, 0), 399);
+        Due.due("both are there", z.cells(399) * 10 + z.cells(400), 33);
         GridEngine y = new GridEngine();
         int many = Engine.ints(y, 1, 2, 3);
         grid(y, 1, 3999, 25);
@@ -422,6 +431,12 @@ final class FoldBoundsTest {
         grid(y, 1, 17);
         Refused.due(y, "five cells are left, six are needed", () -> y.groups(many, many, 0), -12);
         Due.due("four are needed", y.groups(Engine.view(y, many, ":2"), Engine.view(y, many, ":2"), 0) > 0, true);
+        GridEngine w = new GridEngine();
+        int keys2 = Engine.ints(w, 1, 2, 3);
+        grid(w, 1, 3999, 25);
+        grid(w, 1, 16);
+        Due.due("six cells are left, six are needed", w.groups(keys2, keys2, 0) > 0, true);
+        Due.due("none is left", w.grid(0), -12);
     }
 
     private static void joinHasAtMost4096Pairs() {
@@ -432,6 +447,10 @@ final class FoldBoundsTest {
         int most = grid(x, 4, 4096);
         Due.due("64 * 64 pairs", Engine.shape(x, x.join(a, a)), "4096x2");
         Refused.due(x, "64 * 65 pairs", () -> x.join(a, b), -12);
+        int c = grid(x, 4, 17);
+        int d = grid(x, 4, 241);
+        Refused.due(x, "4097 pairs", () -> x.join(c, d), -12);
+        Due.due("4080 pairs", Engine.shape(x, x.join(c, Engine.view(x, d, ":240"))), "4080x2");
         Due.due("1 * 4096 pairs", Engine.shape(x, x.join(one, most)), "4096x2");
         Due.due("4096 * 1 pairs", Engine.shape(x, x.join(most, one)), "4096x2");
         int two = grid(x, 4, 2);
@@ -468,6 +487,21 @@ final class FoldBoundsTest {
         int column = x.spread(wide);
         int row = x.turned(column, 0, 1);
         Refused.due(x, "1000 * 1 * 1000 products, but too many cells", () -> x.product(column, row), -12);
+        int inf = x.grid(7);
+        x.put(inf, 7, Engine.bits(INF));
+        x.axis(400);
+        x.axis(1);
+        int infColumn = x.spread(inf);
+        x.axis(1);
+        x.axis(250);
+        int fine = x.spread(wide);
+        x.axis(1);
+        x.axis(251);
+        int tooWide = x.spread(wide);
+        Refused.due(x, "100000 cells are worked out, and fail", () -> x.product(infColumn, fine), -8);
+        Due.due("failed(0)", x.failed(0), 0);
+        Refused.due(x, "100400 cells are not", () -> x.product(infColumn, tooWide), -12);
+        Due.due("failed(0)", x.failed(0), -1);
         Due.due("1 * 1000 * 1", x.cells(x.product(row, column)), 1);
         int none = grid(x, 4, 4096, 0);
         int turned = x.turned(none, 0, 1);
@@ -580,6 +614,40 @@ final class FoldBoundsTest {
         s = x.solve(e, Engine.ints(x, 1, 0));
         Due.due("a denominator of 2^62", x.cell(s + 1, 1), 1L << 62);
         Due.due("its numerator", x.cell(s, 1), -1);
+        // x3 = 4 x2 and more: beyond 64 digits.
+        for (int times : new int[] {-4, -8, -6, -5, -1073741824}) {
+            long[] more = cells.clone();
+            more[14] = times;
+            int m = Engine.grid(x, 4, new int[] {4, 4}, more);
+            int plus = Engine.ints(x, 1, 0, 0, 0);
+            int minus = Engine.ints(x, -1, 0, 0, 0);
+            Refused.due(x, "times " + times, () -> x.solve(m, plus), -8);
+            Due.due("failed(0)", x.failed(0), 3);
+            Refused.due(x, "times " + times, () -> x.solve(m, minus), -8);
+        }
+        int f = Engine.grid(x, 4, new int[] {3, 3}, Integer.MIN_VALUE, 0, 0, 1, Integer.MIN_VALUE, 0, 0, 1, -4);
+        Refused.due(x, "a denominator of 2^64", () -> x.solve(f, one), -8);
+        GridEngine y = new GridEngine();
+        int pair = Engine.grid(y, 4, new int[] {1, 1}, 2);
+        int single = Engine.ints(y, 1);
+        while (y.lane(398) < 0) {
+            y.turned(pair, 0, 1);
+        }
+        Due.due("room for two grids", y.solve(pair, single), 399);
+        Due.due("numerator and denominator", y.cell(399, 0) * 10 + y.cell(400, 0), 12);
+        GridEngine z = new GridEngine();
+        int three = Engine.grid(z, 4, new int[] {3, 3}, 1, 0, 0, 0, 1, 0, 0, 0, 1);
+        int row = Engine.ints(z, 1, 2, 3);
+        grid(z, 1, 3999, 25);
+        // 99975 + 12 cells are taken: 13 are left.
+        grid(z, 1, 8);
+        Refused.due(z, "five cells are left, six are needed", () -> z.solve(three, row), -12);
+        GridEngine v = new GridEngine();
+        int three2 = Engine.grid(v, 4, new int[] {3, 3}, 1, 0, 0, 0, 1, 0, 0, 0, 1);
+        int row2 = Engine.ints(v, 1, 2, 3);
+        grid(v, 1, 3999, 25);
+        grid(v, 1, 7);
+        Due.due("six cells are left", v.solve(three2, row2) > 0, true);
         while (x.lane(399) < 0) {
             x.turned(a, 0, 1);
         }
@@ -618,6 +686,77 @@ final class FoldBoundsTest {
             Due.due("lane " + lane, x.lane(x.residues(grid(x, lane, 2), 5, false)), 5);
         }
         Refused.due(x, "no grid", () -> x.residues(999, 5, false), -14);
+    }
+
+    private interface OnOne {
+        int made(GridEngine x, int g);
+    }
+
+    /** The first call of a new object that works through many cells. */
+    private static void longRowsInANewObject() {
+        OnOne[] calls = {
+            (x, g) -> x.running(g, 0, 0), (x, g) -> x.sorted(g, true), (x, g) -> x.groups(g, g, 0), (x, g) -> x.cast(g, 7, 0), (x, g) -> x.join(g, g),
+            (x, g) -> x.fold(g, 0, 0), (x, g) -> sized(x, g), (x, g) -> x.fold(x.turned(Engine.view(x, g, "*"), 0, 1), 0, 1), (x, g) -> x.copy(g, g),
+            (x, g) -> x.shares(g, g), (x, g) -> x.search(g, 0), (x, g) -> x.bytes(g), (x, g) -> Engine.keep(x, g, "a"), (x, g) -> formula(x, g),
+            (x, g) -> x.running(g, 3, -1), (x, g) -> x.fold(g, 4, -1)
+        };
+        int[] sizes = {255, 256, 257, 300, 511, 512, 513, 1025, 4096};
+        for (int k = 0; k < calls.length; k++) {
+            for (int size : sizes) {
+                GridEngine x = new GridEngine();
+                int g = grid(x, 4, size);
+                boolean tooMany = k == 4 && size > 64;
+                Due.due("call " + k + " of " + size + " cells", calls[k].made(x, g) >= 0, !tooMany);
+            }
+        }
+        GridEngine x = new GridEngine();
+        Due.due("1024 residues", x.cells(x.residues(grid(x, 4, 1024), 12289, false)), 1024);
+    }
+
+    private static int sized(GridEngine x, int g) {
+        x.axis(x.cells(g));
+        x.axis(1);
+        return x.shaped(g);
+    }
+
+    private static int formula(GridEngine x, int g) {
+        x.bind(0, g);
+        return Engine.formula(x, "a + 1");
+    }
+
+    /** Whatever was made before, a result has its own shape. */
+    private static void shapesOfResults() {
+        GridEngine x = new GridEngine();
+        int a = Engine.grid(x, 4, new int[] {2, 2}, 2, 0, 0, 2);
+        int b = Engine.ints(x, 1, 2);
+        int other = grid(x, 4, 1, 2, 3, 4);
+        int s = x.solve(a, b);
+        Due.due("solve", Engine.shape(x, s) + " " + Engine.shape(x, s + 1), "2 2");
+        x.cast(other, 5, 0);
+        Due.due("sorted", Engine.shape(x, x.sorted(b, false)), "2");
+        x.cast(other, 5, 0);
+        int k = x.groups(b, b, 0);
+        Due.due("groups", Engine.shape(x, k) + " " + Engine.shape(x, k + 1), "2 2");
+        x.cast(other, 5, 0);
+        Due.due("join", Engine.shape(x, x.join(b, b)), "2x2");
+        x.cast(other, 5, 0);
+        Due.due("product", Engine.shape(x, x.product(a, a)), "2x2");
+        x.cast(other, 5, 0);
+        Due.due("residues", Engine.shape(x, x.residues(b, 5, false)), "2");
+        x.cast(other, 5, 0);
+        Due.due("fold", Engine.shape(x, x.fold(other, 0, 1)), "1x3x4");
+        Due.due("fold", Engine.shape(x, x.fold(b, 0, 0)), "");
+        x.cast(other, 5, 0);
+        Due.due("running", Engine.shape(x, x.running(b, 0, 0)), "2");
+        Engine.table(x, "a\n1\n2\n3\n");
+        x.cast(other, 5, 0);
+        Due.due("column", Engine.shape(x, x.column(1, 0)), "3");
+        x.cast(other, 5, 0);
+        Due.due("missing", Engine.shape(x, x.missing(1, 0)), "3");
+        int none = grid(x, 4, 2, 2);
+        x.cast(other, 5, 0);
+        Due.due("failed(0) of solve", x.solve(none, b), -6);
+        Due.due("failed(0)", x.failed(0), -1);
     }
 
     private static void residuesWrapAround() {

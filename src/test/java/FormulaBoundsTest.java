@@ -18,6 +18,9 @@ final class FormulaBoundsTest {
         functionsAreAtMost40ForLife();
         textsHaveAtMost4000Bytes();
         depthIs25AtMost();
+        whatIsClosedIsNoDeeper();
+        digitsBehindThePoint();
+        argumentsAreWidenedOneByOne();
         heightIs30AtMost();
         fault1ComesBeforeFault2();
         fault2InTheOrderOfTheText();
@@ -275,6 +278,50 @@ final class FormulaBoundsTest {
         Due.due("a body of 25", Engine.functions(x, "int f(int x)=" + many("(", 24) + "x" + many(")", 24) + ";"), 1);
         functionFault(x, 1, "int g(int x)=" + many("(", 25) + "x" + many(")", 25) + ";", 13 + 25);
         Due.due("each body begins at 1", Engine.functions(x, "int h(int x)=" + many("-", 24) + "x;int i(int x)=" + many("-", 24) + "x;"), 3);
+    }
+
+    /** As many parts side by side as the height allows. */
+    private static void whatIsClosedIsNoDeeper() {
+        String[] parts = {"(true ? 1 : 2)", "(false ? 2 : true ? 1 : 2)", "-(-1)", "(int) 1", "abs(1)", "max(0, 1)", "((1))", "- -1", "(1 < 2 ? 1 : 2)", "~~1"};
+        for (String part : parts) {
+            value(part + many(" + " + part, 25), 4, 26);
+        }
+        String inner = "(true ? 1 : 2)";
+        value(many("(", 22) + inner + many(")", 22), 4, 1);
+        fault(1, many("(", 23) + inner + many(")", 23), 23 + 8);
+        value(many("(", 20) + inner + many("+" + inner, 9) + many(")", 20), 4, 10);
+    }
+
+    private static void digitsBehindThePoint() {
+        String digits = "12345678901234";
+        for (int n = 1; n <= 14; n++) {
+            String text = "0." + digits.substring(0, n);
+            value(text, 7, Engine.bits(Double.parseDouble(text)));
+            value(text + "F", 6, Engine.bits((float) Double.parseDouble(text)));
+            String ones = digits.substring(0, 15 - n) + "." + "1".repeat(n);
+            value(ones, 7, Engine.bits(Double.parseDouble(ones)));
+        }
+    }
+
+    /** An argument of each lane at each of six places, to parameters of the widest lane. */
+    private static void argumentsAreWidenedOneByOne() {
+        String[] value = {"", "(byte) -3", "(short) -3", "(char) 3", "-3", "-3L", "-3.5F", "-3.5"};
+        double[] want = {0, -3, -3, 3, -3, -3, -3.5, -3.5};
+        for (int place = 0; place < 6; place++) {
+            for (int lane = 1; lane < 8; lane++) {
+                GridEngine x = new GridEngine();
+                String[] names = {"a", "b", "c", "d", "e", "f"};
+                StringBuilder head = new StringBuilder();
+                StringBuilder call = new StringBuilder();
+                for (int k = 0; k < 6; k++) {
+                    head.append(k == 0 ? "" : ", ").append("double ").append(names[k]);
+                    call.append(k == 0 ? "" : ", ").append(k == place ? value[lane] : k % 2 == 0 ? "1.0F" : "2");
+                }
+                Engine.functions(x, "double q(" + head + ") = " + names[place] + ";");
+                int g = Engine.formula(x, "q(" + call + ")");
+                Due.due("argument " + place + " of lane " + lane, x.cell(g, 0), Engine.bits(want[lane]));
+            }
+        }
     }
 
     private static void heightIs30AtMost() {
@@ -596,6 +643,10 @@ final class FormulaBoundsTest {
         fails("mulexact(3037000500L, 3037000500L)");
         fails("mulexact(-9223372036854775807L - 1L, -1L)");
         fails("mulexact(-1L, -9223372036854775807L - 1L)");
+        // All digits of what is looked at are ones.
+        fails("addexact(6148914691236517205L, 6148914691236517205L)");
+        fails("subexact(-6148914691236517206L, 6148914691236517205L)");
+        fails("addexact(1431655765, 1431655765)");
         value("mulexact(0, -9223372036854775807L - 1L)", 5, 0);
     }
 
@@ -758,6 +809,13 @@ final class FormulaBoundsTest {
         Refused.due(x, "6 / a, turned over", () -> Engine.formula(x, "6 / a"), -8);
         Due.due("failed(0)", x.failed(0), 0);
         Due.due("failed(1)", x.failed(1), 0);
+        int deep = grid(x, 3, 2, 2, 2);
+        x.bind(0, deep);
+        Refused.due(x, "the last of four axes", () -> Engine.formula(x, "1 / (l == 2 && k == 1 && j == 0 && i == 1 ? a : 1)"), -8);
+        int[] spot = {2, 1, 0, 1};
+        for (int n = 0; n < 4; n++) {
+            Due.due("failed(" + n + ")", x.failed(n), spot[n]);
+        }
         x.bind(0, Engine.view(x, g, ":,:2"));
         x.bind(1, Engine.view(x, g, "*,*,:,:2"));
         Refused.due(x, "four axes", () -> Engine.formula(x, "6 / a + b"), -8);

@@ -36,6 +36,7 @@ final class GridBoundsTest {
         aSpreadViewHasAtMost100000Cells();
         spreadViewsCannotBeWritten();
         shapedTakesAsManyCells();
+        sharedCellsAreThoseOfNow();
         Due.finish();
     }
 
@@ -613,6 +614,28 @@ final class GridBoundsTest {
         x.at(5);
         Due.due("a shaped one has its own cells", x.put(own, 4, 9), 0);
         Due.due("the grid stays", Engine.cells(x, g), 1, 5);
+    }
+
+    /** What was looked at before does not count. */
+    private static void sharedCellsAreThoseOfNow() {
+        GridEngine x = engine();
+        int even = Engine.view(x, 1, "::2");
+        int odd = Engine.view(x, 1, "1::2");
+        int none = Engine.view(x, 1, "4:4");
+        for (int round = 0; round < 3; round++) {
+            Due.due("even ones", x.shares(even, even), 1);
+            Due.due("odd and even ones", x.shares(odd, even), 0);
+            Due.due("even and odd ones", x.shares(even, odd), 0);
+            Due.due("none and all", x.shares(none, 1), 0);
+            Due.due("all and none", x.shares(1, none), 0);
+            Due.due("all and odd ones", x.shares(1, odd), 1);
+        }
+        x.bind(0, 1);
+        Engine.formula(x, "a * 0 + 1");
+        Due.due("behind a row of ones", x.shares(odd, even), 0);
+        Due.due("first and last", x.shares(Engine.view(x, 1, ":1"), Engine.view(x, 1, "-1:")), 0);
+        Due.due("the last one", x.shares(Engine.view(x, 1, "9"), odd), 1);
+        Due.due("cells of other grids", x.shares(1, 2), 0);
     }
 
     private static void shapedTakesAsManyCells() {

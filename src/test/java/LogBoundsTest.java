@@ -150,8 +150,11 @@ final class LogBoundsTest {
         // Eight are not: four more are due for the cell.
         fault(4, checked(71, 82, 4, 0));
         GridEngine x = new GridEngine();
+        x.read();
+        Due.due("place()", x.place(), 0);
         Engine.feed(x, checked(71, 82, 4, 1, 0, 0));
         Due.due("no cells: 10 bytes", x.read(), 1);
+        Due.due("place()", x.place(), -1);
     }
 
     private static void theCheckIsLookedAtFirst() {
@@ -177,6 +180,9 @@ final class LogBoundsTest {
         fault(2, checked(71, 82, 255, 5));
         fault(3, checked(71, 82, 7, 5));
         fault(3, checked(71, 82, 0, 255));
+        fault(3, checked(71, 82, 4, 255, 0, 0));
+        fault(3, checked(71, 82, 4, 254, 0, 0));
+        fault(3, checked(71, 82, 5, 254, 0, 0, 0, 0, 0, 0, 0, 0));
         GridEngine x = new GridEngine();
         Engine.feed(x, checked(71, 82, 7, 4, 0, 0, 0, 1, 0, 2, 16, 0));
         Due.due("lane 7, four axes", Engine.shape(x, x.read()), "0x1x2x4096");
@@ -389,9 +395,12 @@ final class LogBoundsTest {
         Due.due("it is open", x.reopen(), -13);
         Due.due("the grid is there", x.lane(1), 0);
         GridEngine y = new GridEngine();
-        Due.due("crash without records", y.crash(5), true);
-        Due.due("logged", y.logged(), 0);
-        Due.due("reopen", y.reopen(), 0);
+        for (int n = 5; n >= 0; n -= 5) {
+            Due.due("crash without records", y.crash(n), true);
+            Due.due("logged", y.logged(), 0);
+            Due.due("reopen", y.reopen(), 0);
+            Due.due("logged", y.logged(), 0);
+        }
         int g = Engine.ints(y, 1);
         Engine.keep(y, g, "a");
         Engine.keep(y, g, "b");

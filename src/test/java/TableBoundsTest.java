@@ -33,6 +33,7 @@ final class TableBoundsTest {
         writtenCellsAreInQuotesJustIfTheyWere();
         outEndsWithWhatWasWritten();
         namedTakesTheWholeName();
+        manyRowsInANewObject();
         Due.finish();
     }
 
@@ -276,6 +277,13 @@ final class TableBoundsTest {
         lane(8, "1.-5");
         lane(8, "1e5");
         lane(8, "1.5F");
+        String digits = "12345678901234";
+        for (int n = 1; n <= 14; n++) {
+            String text = "-0." + digits.substring(0, n);
+            column(text, Engine.bits(Double.parseDouble(text)));
+            String ones = digits.substring(0, 15 - n) + "." + "1".repeat(n);
+            column(ones, Engine.bits(Double.parseDouble(ones)));
+        }
         column("-0.0", Engine.bits(-0.0));
         column("0.1", Engine.bits(0.1));
         column("99999999999999.9", Engine.bits(99999999999999.9));
@@ -469,6 +477,18 @@ final class TableBoundsTest {
         Due.due("out(8)", x.out(8) >= 0, true);
         x.write(1);
         Due.due("what was longer is gone", x.out(3), -1);
+    }
+
+    private static void manyRowsInANewObject() {
+        for (int rows : new int[] {255, 256, 257, 499}) {
+            GridEngine x = new GridEngine();
+            Engine.table(x, "a\n" + "7\n".repeat(rows));
+            Due.due("missing", x.cells(x.missing(1, 0)), rows);
+            GridEngine y = new GridEngine();
+            Engine.table(y, "a\n" + "7\n".repeat(rows));
+            Due.due("column", y.cells(y.column(1, 0)), rows);
+            Due.due("write", y.write(1), 2 + 2 * rows);
+        }
     }
 
     private static void namedTakesTheWholeName() {

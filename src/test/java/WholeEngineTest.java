@@ -140,7 +140,7 @@ final class WholeEngineTest {
     }
 
     private void newGrid() {
-        sizes(among(30) == 0 ? 5 : 1 + among(4));
+        sizes(among(30) == 0 ? 5 : among(3) == 0 ? 1 + among(4) : 1);
         int lane = lane();
         int g = same("!grid(" + lane + ")", x.grid(lane), m.grid(lane));
         if (g > 0 && m.cells(g) <= 40) {
@@ -420,7 +420,8 @@ final class WholeEngineTest {
                 break;
             case 2:
             case 3:
-                int way = among(12) - 1;
+                h = among(2) == 0 ? g : h;
+                int way = among(8) == 0 ? among(12) - 1 : m.lane(h) == 0 ? 5 + among(3) : among(5);
                 int keys = same("!groups", x.groups(g, h, way), m.groups(g, h, way));
                 made = keys > 0 ? keys + 1 : made;
                 break;
@@ -441,7 +442,10 @@ final class WholeEngineTest {
         }
         switch (among(3)) {
             case 0:
-                same("!product", x.product(g, h), m.product(g, h));
+                int r = among(4);
+                int a = among(3) == 0 ? g : square(1 + among(7), 1 + among(3), r);
+                int b = among(3) == 0 ? h : square(1 + among(7), among(12) == 0 ? r + 1 : r, among(3));
+                same("!product", x.product(a, b), m.product(a, b));
                 break;
             case 1:
                 int s = same("!solve", x.solve(g, h), m.solve(g, h));
@@ -469,8 +473,9 @@ final class WholeEngineTest {
 
     private void foldCall() {
         int g = late();
-        int way = among(11) - 1;
-        int axis = among(6) - 2;
+        int lane = m.lane(g);
+        int way = among(8) == 0 ? among(11) - 1 : lane == 0 ? 5 + among(3) : lane > 5 && among(4) == 0 ? 8 : among(5);
+        int axis = among(8) == 0 ? among(6) - 2 : Math.min(among(4), Math.max(0, m.axes(g))) - 1;
         if (among(2) == 0) {
             same("!fold(" + g + ", " + way + ", " + axis + ")", x.fold(g, way, axis), m.fold(g, way, axis));
         } else if (m.cells(g) <= 300) {
