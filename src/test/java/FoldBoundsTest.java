@@ -697,7 +697,7 @@ final class FoldBoundsTest {
         OnOne[] calls = {
             (x, g) -> x.running(g, 0, 0), (x, g) -> x.sorted(g, true), (x, g) -> x.groups(g, g, 0), (x, g) -> x.cast(g, 7, 0), (x, g) -> x.join(g, g),
             (x, g) -> x.fold(g, 0, 0), (x, g) -> sized(x, g), (x, g) -> x.fold(x.turned(Engine.view(x, g, "*"), 0, 1), 0, 1), (x, g) -> x.copy(g, g),
-            (x, g) -> x.shares(g, g), (x, g) -> x.search(g, 0), (x, g) -> x.bytes(g), (x, g) -> Engine.keep(x, g, "a"), (x, g) -> formula(x, g),
+            (x, g) -> x.shares(g, g), (x, g) -> x.search(g, 0), (x, g) -> x.bytes(g), (x, g) -> Engine.keep(x, g, "a"), (x, g) -> formula(x, g, "a + 1"),
             (x, g) -> x.running(g, 3, -1), (x, g) -> x.fold(g, 4, -1)
         };
         int[] sizes = {255, 256, 257, 300, 511, 512, 513, 1025, 4096};
@@ -709,6 +709,13 @@ final class FoldBoundsTest {
                 Due.due("call " + k + " of " + size + " cells", calls[k].made(x, g) >= 0, !tooMany);
             }
         }
+        for (int size : sizes) {
+            GridEngine y = new GridEngine();
+            int unlike = formula(y, grid(y, 4, size), "a + i");
+            int keys = y.groups(unlike, unlike, 0);
+            Due.due(size + " unlike keys", y.cells(keys), size);
+            Due.due("the last one's sum", y.cell(keys + 1, size - 1), size - 1);
+        }
         GridEngine x = new GridEngine();
         Due.due("1024 residues", x.cells(x.residues(grid(x, 4, 1024), 12289, false)), 1024);
     }
@@ -719,9 +726,9 @@ final class FoldBoundsTest {
         return x.shaped(g);
     }
 
-    private static int formula(GridEngine x, int g) {
+    private static int formula(GridEngine x, int g, String text) {
         x.bind(0, g);
-        return Engine.formula(x, "a + 1");
+        return Engine.formula(x, text);
     }
 
     /** Whatever was made before, a result has its own shape. */

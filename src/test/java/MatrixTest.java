@@ -13,6 +13,7 @@ final class MatrixTest {
         solutions();
         beyondLong();
         greatPowers();
+        longBorrows();
         residues();
         for (int round = 0; round < 400; round++) {
             randomProduct();
@@ -150,6 +151,31 @@ final class MatrixTest {
         int s = x.solve(Engine.grid(x, 4, new int[] {10, 10}, cells), Engine.ints(x, right));
         Due.due("numerators", Engine.cells(x, s), tops);
         Due.due("denominators", Engine.cells(x, s + 1), lows);
+    }
+
+    /**
+     * Three fifths, as 3 g / 5 g with a g of more than 64 digits: 5 g - 3 g borrows through a row of ones.
+     * y1 = 2^30 y0, y2 = 2^30 y1, z0 = 1, z1 = 2^30 z0, z2 = 2^30 z1, and 5 g y0 = 3 g z0 by their digits.
+     */
+    private static void longBorrows() {
+        int[][] fives = {{183298737, 1073741821, 79}, {335493959, 1073741823, 159}, {147131073, 1073741817, 319}, {283595987, 1073741816, 479}};
+        int[][] threes = {{324727607, 1073741822, 47}, {630793105, 1073741823, 95}, {947272103, 1073741819, 191}, {384905957, 1073741819, 287}};
+        int b = 1 << 30;
+        for (int k = 0; k < fives.length; k++) {
+            GridEngine x = new GridEngine();
+            int[] f = fives[k];
+            int[] t = threes[k];
+            int a = Engine.grid(x, 4, new int[] {6, 6},
+                -b, 1, 0, 0, 0, 0,
+                0, -b, 1, 0, 0, 0,
+                0, 0, 0, 1, 0, 0,
+                0, 0, 0, -b, 1, 0,
+                0, 0, 0, 0, -b, 1,
+                f[0], f[1], f[2], -t[0], -t[1], -t[2]);
+            int s = x.solve(a, Engine.ints(x, 0, 0, 1, 0, 0, 0));
+            Due.due("numerators", Engine.cells(x, s), 3, 3L * b, 3L * b * b, 1, b, (long) b * b);
+            Due.due("denominators", Engine.cells(x, s + 1), 5, 5, 5, 1, 1, 1);
+        }
     }
 
     private static void residues() {
