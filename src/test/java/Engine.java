@@ -16,7 +16,7 @@ final class Engine {
     }
 
     // What stands in the tray behind the bytes that count: an engine that reads on is found out.
-    private static final byte[] RUBBISH = "0:1)\"\n*,+2;".getBytes(StandardCharsets.ISO_8859_1);
+    private static final byte[] RUBBISH = "0:1) \"\n*,+2; ".getBytes(StandardCharsets.ISO_8859_1);
     private static int fed = 0;
 
     /** Puts bytes behind what the tray has. */

@@ -404,6 +404,17 @@ final class FoldBoundsTest {
         Refused.due(x, "lane before sizes", () -> x.groups(a, b, 5), -1);
         Refused.due(x, "no keys", () -> x.groups(999, a, 0), -14);
         Refused.due(x, "no values", () -> x.groups(a, 999, 0), -14);
+        int six = Engine.ints(x, 5, 0, 3, 0, 5, 0);
+        int everyOther = Engine.view(x, six, "::2");
+        k = x.groups(everyOther, a, 0);
+        Due.due("keys of a view", Engine.cells(x, k), 3, 5);
+        Due.due("values of a grid", Engine.cells(x, k + 1), 2, 4);
+        k = x.groups(a, everyOther, 0);
+        Due.due("keys of a grid", Engine.cells(x, k), 1, 2, 3);
+        Due.due("values of a view", Engine.cells(x, k + 1), 5, 3, 5);
+        k = x.groups(Engine.view(x, six, "::-2"), Engine.view(x, a, "::-1"), 2);
+        Due.due("keys of a view, turned over", Engine.cells(x, k), 0);
+        Due.due("product", Engine.cells(x, k + 1), 6);
         int bad = Engine.ints(x, Integer.MAX_VALUE, 1, 0);
         int same = Engine.ints(x, 7, 7, 7);
         Refused.due(x, "fails", () -> x.groups(same, bad, 1), -8);
@@ -468,12 +479,32 @@ final class FoldBoundsTest {
         Refused.due(x, "no grid", () -> x.join(one, 999), -14);
     }
 
+    private static int spread(GridEngine x, int g, int... sizes) {
+        for (int s : sizes) {
+            x.axis(s);
+        }
+        return x.spread(g);
+    }
+
     private static void productsAreAtMost1000000() {
         GridEngine x = new GridEngine();
         int a = grid(x, 1, 100, 100);
         int b = grid(x, 1, 100, 101);
         Due.due("1000000 products", x.cells(x.product(a, a)), 10000);
         Refused.due(x, "1010000 products", () -> x.product(a, b), -12);
+        int[][] shapes = {{500, 100, 20}, {20, 100, 500}, {100, 500, 20}, {20, 500, 100}, {10, 4000, 25}, {25, 4000, 10}};
+        int[][] beyond = {{501, 100, 20}, {20, 100, 501}, {100, 501, 20}, {20, 501, 100}, {11, 4000, 25}, {25, 4000, 11}};
+        for (int n = 0; n < shapes.length; n++) {
+            GridEngine y = new GridEngine();
+            int one = y.grid(1);
+            y.put(one, 1, 1);
+            int p = y.product(spread(y, one, shapes[n][0], shapes[n][1]), spread(y, one, shapes[n][1], shapes[n][2]));
+            Due.due("cells", y.cells(p), shapes[n][0] * shapes[n][2]);
+            Due.due("the last one", y.cell(p, y.cells(p) - 1), shapes[n][1]);
+            int left = spread(y, one, beyond[n][0], beyond[n][1]);
+            int right = spread(y, one, beyond[n][1], beyond[n][2]);
+            Refused.due(y, "too many products", () -> y.product(left, right), -12);
+        }
         int c = grid(x, 7, 1, 1);
         x.put(c, 7, 0);
         int wide = x.grid(7);
@@ -698,7 +729,8 @@ final class FoldBoundsTest {
             (x, g) -> x.running(g, 0, 0), (x, g) -> x.sorted(g, true), (x, g) -> x.groups(g, g, 0), (x, g) -> x.cast(g, 7, 0), (x, g) -> x.join(g, g),
             (x, g) -> x.fold(g, 0, 0), (x, g) -> sized(x, g), (x, g) -> x.fold(x.turned(Engine.view(x, g, "*"), 0, 1), 0, 1), (x, g) -> x.copy(g, g),
             (x, g) -> x.shares(g, g), (x, g) -> x.search(g, 0), (x, g) -> x.bytes(g), (x, g) -> Engine.keep(x, g, "a"), (x, g) -> formula(x, g, "a + 1"),
-            (x, g) -> x.running(g, 3, -1), (x, g) -> x.fold(g, 4, -1)
+            (x, g) -> x.running(g, 3, -1), (x, g) -> x.fold(g, 4, -1), (x, g) -> x.product(Engine.view(x, g, ":,*"), grid(x, 4, 1, 1)),
+            (x, g) -> x.product(grid(x, 4, 1, 1), Engine.view(x, g, "*,:"))
         };
         int[] sizes = {255, 256, 257, 300, 511, 512, 513, 1025, 4096};
         for (int k = 0; k < calls.length; k++) {

@@ -27,6 +27,7 @@ final class FormulaBoundsTest {
         headsBeforeBodies();
         namesMeanOperandsAndPlaces();
         bindTakes0To7();
+        theWiderLane();
         wholeNumbersWrap();
         divisionBy0Fails();
         shiftsTakeTheLowestBits();
@@ -476,6 +477,43 @@ final class FormulaBoundsTest {
         Due.due("the other one is not", Engine.formula(x, "h"), 3);
     }
 
+    /** Of each two lanes, and of the signs and casts of each one. */
+    private static void theWiderLane() {
+        int[] least = {0, 4, 4, 4, 4, 5, 6, 7};
+        for (int a = 0; a < 8; a++) {
+            for (int b = 0; b < 8; b++) {
+                GridEngine x = new GridEngine();
+                x.bind(0, Engine.row(x, a, 1));
+                x.bind(1, Engine.row(x, b, 1));
+                boolean numbers = a > 0 && b > 0;
+                boolean whole = numbers && a < 6 && b < 6;
+                boolean booleans = a == 0 && b == 0;
+                int wider = Math.max(least[a], least[b]);
+                lane(x, "a + b", numbers ? wider : -22);
+                lane(x, "a & b", booleans ? 0 : whole ? wider : -22);
+                lane(x, "a << b", whole ? least[a] : -22);
+                lane(x, "a < b", numbers ? 0 : -22);
+                lane(x, "a == b", numbers || booleans ? 0 : -22);
+                lane(x, "a && b", booleans ? 0 : -22);
+                lane(x, "true ? a : b", a == b ? a : numbers ? wider : -22);
+                lane(x, "max(a, b)", numbers ? wider : -22);
+                lane(x, "floordiv(a, b)", whole ? wider : -22);
+                lane(x, "(" + Engine.LANES[b] + ") a", numbers || booleans ? b : -22);
+                lane(x, "-a", a > 0 ? least[a] : -22);
+                lane(x, "~a", a > 0 && a < 6 ? least[a] : -22);
+                lane(x, "!a", a == 0 ? 0 : -22);
+                lane(x, "sign(a)", a > 0 ? least[a] : -22);
+                lane(x, "bits(a)", a > 0 && a < 6 ? least[a] : -22);
+                lane(x, "sqrt(a)", a > 0 ? 7 : -22);
+            }
+        }
+    }
+
+    private static void lane(GridEngine x, String text, int want) {
+        int g = Engine.formula(x, text);
+        Due.due("lane of <" + text + "> for " + x.lane(1) + " and " + x.lane(2), g < 0 ? g : x.lane(g), want);
+    }
+
     private static void wholeNumbersWrap() {
         value("2147483647 + 1", 4, Integer.MIN_VALUE);
         value("-2147483647 - 2", 4, Integer.MAX_VALUE);
@@ -518,6 +556,25 @@ final class FormulaBoundsTest {
         fails("0.0 / 0.0");
         fails("1.0 % 0.0");
         fails("0.0F / 0");
+        String[] floats = {"", "F"};
+        for (String f : floats) {
+            String zero = "0.0" + f;
+            String inf = "(1.0" + f + " / 0.0" + f + ")";
+            for (String a : new String[] {"", "-"}) {
+                for (String b : new String[] {"", "-"}) {
+                    fails(a + zero + " / " + b + zero);
+                    fails(a + inf + " / " + b + inf);
+                    fails(a + inf + " * " + b + zero);
+                    fails(a + zero + " * " + b + inf);
+                    fails(a + inf + " % " + b + "2.0" + f);
+                    fails(a + inf + " % " + b + inf);
+                    fails(a + "2.0" + f + " % " + b + zero);
+                    fails(a + zero + " % " + b + zero);
+                }
+                fails(a + inf + " - " + a + inf);
+                fails(a + inf + " + -(" + a + inf + ")");
+            }
+        }
         value("5.5 % -2.0", 7, Engine.bits(1.5));
         value("-4.0 % 2.0", 7, Engine.bits(-0.0));
     }

@@ -30,6 +30,7 @@ final class GridBoundsTest {
         itemsAreAtMostTheAxes();
         viewsHaveAtMost4Axes();
         blanksStandAnywhereButInNumbers();
+        onlyTheBytesThatCountAreRead();
         emptyTextsAreTheWhole();
         turnedEndsAtTheAxes();
         spreadTakesThatSizeOr1();
@@ -514,6 +515,24 @@ final class GridBoundsTest {
         // The first byte that does not belong comes before every item's own fault.
         fault(1, "77,::0,x", 7);
         fault(1, "77,::0,", 7);
+    }
+
+    /** What stands in the tray behind them is not looked at. */
+    private static void onlyTheBytesThatCountAreRead() {
+        String[] texts = {"", "1", "1,", "1:", "-", "*", ":", "::", "1,2", " ", "1 "};
+        for (String text : texts) {
+            GridEngine x = engine();
+            int want = Engine.view(x, 2, text);
+            int place = x.place();
+            for (String behind : new String[] {" ", "   ", "1", ",", ":", "*", "-1", "x", "\u0000"}) {
+                GridEngine y = engine();
+                Engine.feed(y, text + behind);
+                y.end(text.length());
+                Due.due("view <" + text + "> before <" + behind + ">", y.view(2), want);
+                Due.due("place()", y.place(), place);
+                Due.due("shape", Engine.shape(y, want), Engine.shape(x, want));
+            }
+        }
     }
 
     private static void emptyTextsAreTheWhole() {
