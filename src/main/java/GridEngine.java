@@ -933,16 +933,22 @@ public final class GridEngine {
         }
 
         // Rows grow by doubling: what is given up on the way stays less than what is kept.
-        private static long[] grown(long[] row, int need) {
-            return need <= row.length ? row : Arrays.copyOf(row, Math.max(need, 2 * row.length));
-        }
-
         void needWork(int need) {
-            work = grown(work, need);
+            if (need > work.length) {
+                work = Arrays.copyOf(work, Math.max(need, 2 * work.length));
+            }
         }
 
         void needLine(int need) {
-            line = grown(line, need);
+            if (need > line.length) {
+                line = Arrays.copyOf(line, Math.max(need, 2 * line.length));
+            }
+        }
+
+        private void needCells(int need) {
+            if (need > cells.length) {
+                cells = Arrays.copyOf(cells, Math.max(need, 2 * cells.length));
+            }
         }
 
         /** A new grid of the shape, with cells 0. */
@@ -951,7 +957,7 @@ public final class GridEngine {
             if (!hasRoom(1, count)) {
                 return -NO_ROOM;
             }
-            cells = grown(cells, used + (int) count);
+            needCells(used + (int) count);
             int[] steps = new int[AXES_MOST];
             int step = count == 0 ? 0 : 1;
             for (int p = AXES_MOST - 1; p >= 0; p--) {
