@@ -8,6 +8,7 @@ final class WholeEngineTest {
     private final GridEngine x = new GridEngine();
     private final Model m = new Model();
     private final int kind;
+    private final int fullest;
     private int made;
     private int tables;
     private String run;
@@ -15,6 +16,7 @@ final class WholeEngineTest {
     private WholeEngineTest(int seed) {
         random = new Random(seed);
         kind = seed % 6;
+        fullest = seed / 6 % 8;
         run = "run " + seed + ": ";
     }
 
@@ -45,6 +47,7 @@ final class WholeEngineTest {
 
     private void play() {
         int turns = 60 + among(kind == 0 ? 400 : 160);
+        fillUp();
         for (int turn = 0; turn < turns; turn++) {
             call();
             told();
@@ -53,6 +56,71 @@ final class WholeEngineTest {
             }
         }
         all();
+    }
+
+    /** Some runs begin where one of the rows is full, or nearly so. */
+    private void fillUp() {
+        switch (fullest) {
+            case 1:
+                row(1 + among(7), 4000, 24);
+                row(among(8), 4000 - among(3) * among(60), -1);
+                break;
+            case 2:
+                row(4, 2, -1);
+                for (int n = 389 + among(11); n > 0; n--) {
+                    same("!turned", x.turned(1, 0, 0), m.turned(1, 0, 0));
+                }
+                break;
+            case 3:
+                fillLog();
+                break;
+            case 4:
+                for (int n = 34 + among(7); n > 0; n--) {
+                    aTable("n,m\n1,x\n");
+                }
+                break;
+            case 5:
+                fillTexts();
+                break;
+            case 6:
+                for (int n = 33 + among(8); n > 0; n--) {
+                    feed("int f" + n + "(int x) = x + " + n + ";");
+                    same("functions", x.functions(), m.functions());
+                }
+                break;
+            default:
+                break;
+        }
+    }
+
+    private int row(int lane, int n, int r) {
+        same("axis", x.axis(n), m.axis(n));
+        if (r >= 0) {
+            same("axis", x.axis(r), m.axis(r));
+        }
+        return same("!grid", x.grid(lane), m.grid(lane));
+    }
+
+    private void fillLog() {
+        int g = row(5, 3700, -1);
+        feed("a");
+        same("keep", x.keep(g), m.keep(g));
+        feed("b");
+        same("keep", x.keep(g), m.keep(g));
+        g = row(1, 700 - among(4) * among(60), -1);
+        feed("ab");
+        same("keep", x.keep(g), m.keep(g));
+    }
+
+    private void fillTexts() {
+        aTable("n,m,o\n\"" + "x".repeat(40) + "\"," + "y".repeat(40) + "," + "1".repeat(38 + among(3)) + "\n");
+        pickZeros(495);
+        pickZeros(28 + among(8));
+    }
+
+    private void pickZeros(int rows) {
+        int g = row(4, rows, -1);
+        tables = Math.max(tables, same("pick", x.pick(1, g), m.pick(1, g)));
     }
 
     /** What was told last. */
@@ -303,11 +371,14 @@ final class WholeEngineTest {
         return spoilt(b.toString(), "\",\n1 \u0080a", 10);
     }
 
-    private void tableCall() {
-        String text = tableText();
+    private void aTable(String text) {
         feed(text);
         int t = same("table <" + text + ">", x.table(), m.table());
         tables = Math.max(tables, t);
+    }
+
+    private void tableCall() {
+        aTable(tableText());
     }
 
     private void tableUse() {
